@@ -330,6 +330,7 @@ public final class PromiseTests {
         for (int what = 0; what < 8; what++) {
             due("12: ofPerson(2, " + what + ")", x.ofPerson(2, what), due[what]);
         }
+        due("12: NOISES of 0", x.ofPerson(0, 6), 2);
         due("12: SCORE of 1", x.ofPerson(1, 5), 25 + 14);
         due("12: not the greatest alone", x.ofPerson(0, 7), 25 + 9 + 16);
         due("12: no NOISES of 1", x.ofPerson(1, 6), 0);
@@ -392,6 +393,11 @@ public final class PromiseTests {
         for (int what = 0; what < 8; what++) {
             due("15: hall(" + what + ")", x.hall(what), due[what]);
         }
+        x.music(1, 1, 31);
+        due("15: the loudest SECOND", x.hall(4), 1);
+        x.noise(0, 0, 100);
+        x.noise(0, 19, 100);
+        due("15: HEADS at the first and the last SECOND", x.hall(6), 4);
         checks.throwing("15: hall(8)", ARGUMENT, x, () -> x.hall(8));
         checks.throwing("15: hall(-1)", ARGUMENT, x, () -> x.hall(-1));
     }
@@ -402,6 +408,12 @@ public final class PromiseTests {
         due("16: of 1 alone", x.would(0, 0, 31), 16);
         due("16: of nobody", x.would(0, 0, 15), 0);
         due("16: the greatest VOLUME", x.would(2, 19, 150), 150 - 16 - 20 + 150 - 20 - 20 + 9);
+        due("16: the least VOLUME", x.would(0, 0, 1), 0);
+        Quietpaper y = new Quietpaper();
+        y.person(2, 3, 0);
+        y.person(1, 7, 0);
+        due("16: FAR of 6", y.would(0, 0, 50), 50 - 24 - 20);
+        due("16: FAR of 6 the other way", y.would(1, 0, 50), 50 - 24 - 20);
         due("16: nothing fell", x.hall(1), 0);
         x.noise(0, 0, 150);
         due("16: NOISES do not matter", x.would(0, 0, 40), 34);
@@ -500,6 +512,7 @@ public final class PromiseTests {
         x.music(8, 8, 50);
         x.music(11, 12, 40);
         // At PACE 3 the MIND is 52 - LOUDNESS, at 2 40 - LOUDNESS, at 1 28 - LOUDNESS.
+        due("19: the least WORK", x.loudest(0, 1, 1), 0);
         due("19: one SECOND", x.loudest(0, 3, 3), 0);
         due("19: two SECONDS", x.loudest(0, 4, 3), 2);
         due("19: just two", x.loudest(0, 6, 3), 2);
@@ -538,6 +551,15 @@ public final class PromiseTests {
         due("20: 1 and 2 TOGETHER", x.coughing(6, 0), 9);
         x.throat(0, 9);
         due("20: the LAST SECOND itself", x.coughing(1, 0), 9);
+        x.throat(0, 19);
+        x.music(19, 19, 60);
+        due("20: the very last SECOND", x.coughing(1, 0), 19);
+        x.music(19, 19, 20);
+        x.music(1, 1, 50);
+        due("20: the second SECOND", x.coughing(1, 0), 1);
+        x.music(0, 0, 50);
+        due("20: the first of as good ones", x.coughing(1, 0), 0);
+        x.music(0, 1, 20);
         x.throat(0, 0);
         due("20: at once", x.coughing(7, 0), 0);
         due("20: nothing fell", x.hall(1), 0);
