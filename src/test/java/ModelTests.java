@@ -44,13 +44,11 @@ public final class ModelTests {
         checks.due("run " + run + ": digest() at its end", x.digest(), model.digest());
     }
 
-    /** A number from least to most, seldom one just outside. */
+    /** A number from least to most, seldom one just outside, more seldom one far outside. */
     private static int some(Random random, int least, int most) {
-        int odd = random.nextInt(40);
-        if (odd == 0) {
-            return least - 1;
-        }
-        return odd == 1 ? most + 1 : least + random.nextInt(most - least + 1);
+        int[] outside = {least - 1, most + 1, least - 1, most + 1, Integer.MIN_VALUE, Integer.MAX_VALUE};
+        int odd = random.nextInt(120);
+        return odd < outside.length ? outside[odd] : least + random.nextInt(most - least + 1);
     }
 
     private static void call(int run, int which, Random random, Quietpaper x, Model m) {

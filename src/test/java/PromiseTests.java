@@ -217,6 +217,9 @@ public final class PromiseTests {
         checks.throwing("7: sixty-one", STATE, over, () -> over.unwrap(0, 12, 1, 1));
         checks.throwing("7: sixty-one, wrong PACE", ARGUMENT, over, () -> over.unwrap(0, 12, 1, 4));
         due("7: none of them fell", over.hall(1), 49);
+        Quietpaper first = withNoises(60);
+        first.music(0, 0, 99);
+        checks.throwing("7: the one at the first SECOND", STATE, first, () -> first.unwrap(0, 3, 1, 3));
     }
 
     private static void promise7Papers() {
