@@ -1,5 +1,7 @@
 import java.util.ArrayList;
 import java.util.List;
+import java.util.function.Consumer;
+import java.util.function.Supplier;
 
 /** Counts what was asked and prints each answer that is not the one that is due. */
 final class Checks {
@@ -33,6 +35,20 @@ final class Checks {
         }
         due(call + " throws", thrown, kind);
         due("digest() after " + call, x.digest(), before);
+    }
+
+    /** Asks that the call throws just this kind, and that the hall then tells all that one without that call does. */
+    void refused(String call, Class<? extends RuntimeException> kind, Supplier<Quietpaper> hall,
+            Consumer<Quietpaper> refused) {
+        Quietpaper x = hall.get();
+        Object thrown = "nothing";
+        try {
+            refused.accept(x);
+        } catch (RuntimeException e) {
+            thrown = e.getClass();
+        }
+        due(call + " throws", thrown, kind);
+        due("all that is asked after " + call, Told.of(x), Told.of(hall.get()));
     }
 
     void end() {
